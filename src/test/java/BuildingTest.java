@@ -57,6 +57,10 @@ public final class BuildingTest {
         Check.answers("8: the first is not due any more", 8, () -> x.build(11, 1));
         Check.yes("8: spoil", x.spoil(4));
         Check.refuses("8: spoilt though it was made", IllegalStateException.class, () -> x.build(11, 1));
+        Check.yes("8: the least step's INPUT alone", x.source(4, 5) && x.spoil(3));
+        Check.refuses("8: it lacks", IllegalStateException.class, () -> x.build(11, 1));
+        Check.tell(x, 39, 1, 1, 12, 3);
+        Check.refuses("8: the greatest step's INPUT lacks", IllegalStateException.class, () -> x.build(12, 1));
     }
 
     private static void contents() {

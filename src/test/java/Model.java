@@ -35,6 +35,7 @@ final class Model {
     private final TreeMap<Integer, Integer> contents = new TreeMap<>();
     private List<Job> jobs = new ArrayList<>();
     private List<Integer> round = new ArrayList<>();
+    private final TreeMap<Integer, Integer> ranks = new TreeMap<>();
     private int needed;
     private int greatest;
 
@@ -97,6 +98,7 @@ final class Model {
             }
         }
         needed = need.size();
+        ranks.clear();
         greatest = 0;
         for (int s : need) {
             greatest = Math.max(greatest, rank(s, need));
@@ -309,12 +311,18 @@ final class Model {
     }
 
     private int rank(int s, TreeSet<Integer> need) {
+        Integer known = ranks.get(s);
+        if (known != null) {
+            return known;
+        }
         int greatestBehind = 0;
         for (int t : need) {
             if (waits(t).contains(s)) {
                 greatestBehind = Math.max(greatestBehind, rank(t, need));
             }
         }
-        return steps.get(s).duration + greatestBehind;
+        int rank = steps.get(s).duration + greatestBehind;
+        ranks.put(s, rank);
+        return rank;
     }
 }

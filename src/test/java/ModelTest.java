@@ -5,33 +5,39 @@ public final class ModelTest {
     private static final int CALLS = 512;
     private static final int[] ODD = {-1, 40, 64, 41, 65, 1 << 30, Integer.MIN_VALUE, Integer.MAX_VALUE};
 
+    /** In orderly runs the files below this are SOURCES, and step s makes file BASE + s first. */
+    private static final int BASE = 6;
+
     private final Random dice;
     private final int run;
     private final int steps;
     private final int files;
-    private final boolean forward;
-    private BuildDesk desk = new BuildDesk();
-    private Model model = new Model();
+    private final boolean orderly;
+    private final BuildDesk desk = new BuildDesk();
+    private final Model model = new Model();
     private int calls;
 
     private ModelTest(int run) {
         this.run = run;
         dice = new Random(run);
         steps = new int[] {4, 8, 14, 40}[run % 4];
-        files = Math.min(64, steps * 2);
-        // Half of the runs keep INPUTS below OUTPUTS, so that rounds are rare and builds go deep.
-        forward = run % 8 < 4;
+        // Half of the runs let steps take only what lower ones make, so that builds go deep.
+        orderly = run % 8 < 4;
+        files = Math.min(64, orderly ? BASE + steps + steps / 2 : steps * 2);
     }
 
     public static void main(String[] args) {
-        for (int run = 0; run < 1200; run++) {
+        for (int run = 0; run < 1600; run++) {
             new ModelTest(run).play();
         }
         Check.end();
     }
 
     private void play() {
-        for (int s = 0; s < steps && calls < CALLS; s++) {
+        for (int file = 0; file < BASE; file++) {
+            source(file, dice.nextInt(4));
+        }
+        for (int s = 0; s < steps; s++) {
             setUp(s);
         }
         while (calls < CALLS) {
@@ -46,20 +52,22 @@ public final class ModelTest {
 
     private void setUp(int s) {
         step(s, dice.nextInt(8), mask(), duration());
-        output(s, fileAbove(s));
+        output(s, orderly ? BASE + s : file());
         for (int i = dice.nextInt(4); i > 0; i--) {
-            input(s, forward ? dice.nextInt(files / 2 + s) % files : file());
+            input(s, taken(s));
         }
         if (dice.nextInt(3) == 0) {
-            output(s, fileAbove(s));
-        }
-        if (dice.nextInt(5) != 0) {
-            source(s < files / 2 ? s : file(), dice.nextInt(4));
+            output(s, orderly ? BASE + steps + dice.nextInt(steps) : file());
         }
     }
 
-    private int fileAbove(int s) {
-        return forward ? Math.min(63, files / 2 + s) : file();
+    /** A file for a step to take: in orderly runs one made not long before it. */
+    private int taken(int s) {
+        return orderly && s >= 0 && s < 40 ? Math.max(dice.nextInt(BASE), BASE + s - 1 - dice.nextInt(9)) : file();
+    }
+
+    private int sourceFile() {
+        return orderly && dice.nextInt(8) != 0 ? dice.nextInt(BASE) : file();
     }
 
     private int mask() {
@@ -88,39 +96,47 @@ public final class ModelTest {
                 step(number(), dice.nextInt(3), mask(), dice.nextInt(9) == 0 ? odd() : duration());
                 break;
             case 1:
-                input(number(), forward ? dice.nextInt(files / 2) : file());
+                int s = number();
+                input(s, taken(s));
                 break;
             case 2:
                 output(number(), file());
                 break;
             case 3:
-                if (dice.nextInt(3) == 0) {
-                    drop(number());
-                }
+                dropAndTellAnew(number());
                 break;
             case 4:
             case 5:
-                spoil(file());
+                spoil(orderly ? Math.max(BASE, file()) : file());
                 break;
             default:
-                source(file(), dice.nextInt(4));
+                source(sourceFile(), dice.nextInt(4));
                 break;
         }
     }
 
+    private void dropAndTellAnew(int s) {
+        if (dice.nextInt(3) == 0) {
+            drop(s);
+            if (dice.nextInt(3) != 0) {
+                setUp(s);
+            }
+        }
+    }
+
     private void buildAndAsk() {
-        final int file = file();
+        final int file = orderly && dice.nextInt(3) != 0 ? BASE + steps - 1 - dice.nextInt(4) : file();
         final int workers = dice.nextInt(30) == 0 ? odd() : dice.nextInt(10);
         same("build(" + file + ", " + workers + ")",
                 () -> desk.build(file, workers), () -> model.build(file, workers));
-        for (int i = 0; i < 8; i++) {
+        for (int i = 0; i < 8 + model.count(1); i++) {
             ask();
         }
     }
 
     private void ask() {
         final int what = dice.nextInt(30) == 0 ? odd() : dice.nextInt(7);
-        final int k = dice.nextInt(30) == 0 ? odd() : dice.nextInt(Math.max(1, model.count(1)) + 1);
+        final int k = dice.nextInt(30) == 0 ? odd() : dice.nextInt(Math.max(3, model.count(1)) + 1);
         final int s = number();
         final int file = file();
         switch (dice.nextInt(7)) {

@@ -11,6 +11,7 @@ public final class TellingTest {
         input();
         output();
         drop();
+        dropOfThree();
         source();
         spoil();
         content();
@@ -143,6 +144,18 @@ public final class TellingTest {
         Check.no("5: no input", x.input(39, 2));
         Check.no("5: no output", x.output(39, 2));
         toldAnew(x);
+    }
+
+    private static void dropOfThree() {
+        BuildDesk x = new BuildDesk();
+        Check.tell(x, 0, 5, 1, 10);
+        Check.tell(x, 1, 5, 1, 0);
+        Check.yes("5: three OUTPUTS", x.output(0, 11) && x.output(0, 12));
+        Check.yes("5: drop of three", x.drop(0));
+        Check.yes("5: all three are SOURCES", x.source(10, 1) && x.source(11, 2) && x.source(12, 3));
+        Check.no("5: another's OUTPUT is none", x.source(0, 1));
+        Check.yes("5: anew without files", x.step(0, 1, -1, 1) && x.output(1, 12) && x.drop(0));
+        Check.no("5: what it made before stays another's", x.source(12, 1));
     }
 
     private static void toldAnew(BuildDesk x) {
