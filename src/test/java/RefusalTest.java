@@ -9,25 +9,8 @@ public final class RefusalTest {
         Check.end();
     }
 
-    /** A desk on which a file was built, and a build was refused for the round of 5 and 6. */
-    private static BuildDesk used() {
-        BuildDesk x = new BuildDesk();
-        Check.tell(x, 0, 7, 5, 10, 1, 2, 1, 2, 1, 2);
-        Check.yes("outputs", x.output(0, 11) && x.output(0, 12));
-        Check.tell(x, 1, 8, 3, 13, 10);
-        Check.tell(x, 5, 9, 1, 15, 16);
-        Check.tell(x, 6, 9, 1, 16, 15);
-        Check.tell(x, 7, 9, 1, 17, 17, 13);
-        Check.tell(x, 8, 9, 1, 18, 13, 3);
-        Check.yes("sources", x.source(1, 11) && x.source(2, 12));
-        Check.answers("build", 8, () -> x.build(13, 2));
-        Check.refuses("build", IllegalStateException.class, () -> x.build(16, 2));
-        Check.yes("change", x.source(1, 5));
-        return x;
-    }
-
     private static void tellings() {
-        BuildDesk x = used();
+        BuildDesk x = Edge.used();
         String before = Check.allOf(x);
         Check.no("step", x.step(40, 1, 1, 1) || x.step(-1, 1, 1, 1));
         Check.no("DURATION", x.step(0, 1, 1, 0) || x.step(0, 1, 1, 101) || x.step(20, 1, 1, 0));
@@ -41,7 +24,7 @@ public final class RefusalTest {
     }
 
     private static void arguments() {
-        BuildDesk x = used();
+        BuildDesk x = Edge.used();
         String before = Check.allOf(x);
         Check.refuses("file", IllegalArgumentException.class, () -> x.build(64, 1));
         Check.refuses("file", IllegalArgumentException.class, () -> x.build(-1, 1));
@@ -52,7 +35,7 @@ public final class RefusalTest {
     }
 
     private static void missingSource() {
-        BuildDesk x = used();
+        BuildDesk x = Edge.used();
         String before = Check.allOf(x);
         Check.refuses("the file", IllegalStateException.class, () -> x.build(30, 1));
         Check.refuses("an input", IllegalStateException.class, () -> x.build(18, 1));
@@ -60,7 +43,7 @@ public final class RefusalTest {
     }
 
     private static void round() {
-        BuildDesk x = used();
+        BuildDesk x = Edge.used();
         String before = Check.allOf(x);
         Check.due("11: round", Check.roundOf(x), "5 6");
         Check.refuses("round", IllegalStateException.class, () -> x.build(17, 1));
@@ -69,7 +52,7 @@ public final class RefusalTest {
     }
 
     private static void questions() {
-        BuildDesk x = used();
+        BuildDesk x = Edge.used();
         String before = Check.allOf(x);
         Check.due("count", x.count(6), BuildDesk.NONE);
         Check.due("reason", x.reason(40), BuildDesk.NONE);
