@@ -10,8 +10,10 @@ public final class FaceTest {
     private static final String[] FACE = {
         "boolean drop(int)", "boolean input(int,int)", "boolean output(int,int)",
         "boolean source(int,int)", "boolean spoil(int)", "boolean step(int,int,int,int)",
-        "int begun(int,int)", "int build(int,int)", "int content(int)", "int count(int)",
-        "int cycle(int)", "int reason(int)"};
+        "int begun(int,int) NoSuchElementException",
+        "int build(int,int) IllegalArgumentException IllegalStateException",
+        "int content(int) NoSuchElementException", "int count(int)",
+        "int cycle(int) NoSuchElementException", "int reason(int)"};
 
     public static void main(String[] args) {
         Class<?> face = BuildDesk.class;
@@ -46,9 +48,17 @@ public final class FaceTest {
             Check.no(m.getName() + " is static", Modifier.isStatic(m.getModifiers()));
             String parameters = Arrays.toString(m.getParameterTypes())
                     .replace("[", "(").replace("]", ")").replace(" ", "");
-            open.add(m.getReturnType() + " " + m.getName() + parameters);
+            open.add(m.getReturnType() + " " + m.getName() + parameters + thrownBy(m));
         }
         Check.due("methods", open.toString(), new TreeSet<>(Arrays.asList(FACE)).toString());
+    }
+
+    private static String thrownBy(Method m) {
+        StringBuilder names = new StringBuilder();
+        for (Class<?> thrown : m.getExceptionTypes()) {
+            names.append(' ').append(thrown.getSimpleName());
+        }
+        return names.toString();
     }
 
     private static void fields(Class<?> face) {
